@@ -333,7 +333,10 @@ public final class SnakedBus {
     private Sharing plan() {
         if (!planned) {
             byTarget.look(bus, bus.settingAt(TARGET));
-            byTarget.share();
+            byTarget.findBlocked();
+            for (int l = 0; l < bus.lineCount() && byTarget.allFit(); l++) {
+                byTarget.drawLine(l);
+            }
             planned = true;
         }
         return byTarget;
@@ -660,11 +663,19 @@ public final class SnakedBus {
             return fit;
         }
 
-        /** Finds who is in the way or, if nobody is, who draws what; the rooms are then what is free. */
-        void share() {
+        void findBlocked() {
             inTheWay = tooLong != 0 ? tooLong : crowd();
-            for (int l = 0; l < lines && inTheWay == 0; l++) {
-                drawLine(l);
+        }
+
+        /** For lines in their order, and if nobody is blocked; the rooms are then what is free. */
+        void drawLine(int l) {
+            int need = at(needs, 1 << l);
+            for (int p = 0; p < pockets; p++) {
+                boolean near = hasBit(at(reach, 1 << l), p);
+                int most = near ? Math.min(need, mostFor(l, p)) : 0;
+                put(drawn, cell(l, p, MOST_POCKETS), most);
+                put(rooms, p, at(rooms, p) - most);
+                need -= most;
             }
         }
 
@@ -710,17 +721,6 @@ public final class SnakedBus {
                 }
             }
             return left;
-        }
-
-        private void drawLine(int l) {
-            int need = at(needs, 1 << l);
-            for (int p = 0; p < pockets; p++) {
-                boolean near = hasBit(at(reach, 1 << l), p);
-                int most = near ? Math.min(need, mostFor(l, p)) : 0;
-                put(drawn, cell(l, p, MOST_POCKETS), most);
-                put(rooms, p, at(rooms, p) - most);
-                need -= most;
-            }
         }
 
         /** A hump taken here is lost to every set of later lines that reaches the pocket: none may run short. */

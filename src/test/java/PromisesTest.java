@@ -531,6 +531,17 @@ public final class PromisesTest {
         due(20, "no GAIN", x.more(), NONE);
         due(20, "refused", x.told(1), 2);
         due(20, "nothing is other", x.about(2, 2), 0);
+        SnakedBus y = withLines(20, 40);
+        y.pocket(1, 1);
+        y.sets(TARGET, 28);
+        due(20, "no hump helps a BASE that is above", y.more(), NONE);
+        SnakedBus z = withLines(20, 20);
+        z.pocket(1, 1);
+        z.pocket(1, 2);
+        z.sets(TARGET, 28);
+        due(20, "one more in either is not enough", z.more(), NONE);
+        due(20, "nor after it was asked", z.more(), NONE);
+        due(20, "HUMPS stay", z.count(5), 0);
     }
 
     private static void bumps() {
