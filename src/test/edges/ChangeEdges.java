@@ -144,8 +144,12 @@ final class ChangeEdges extends Edges {
         for (int k = 0; k < 7; k++) {
             range("", "sets(" + k + ",%)", low[k], high[k], first[k]);
         }
-        on("").due("sets(-1,1)", BAD).due("sets(7,1)", BAD).due("sets(6,1)", 4).due("sets(0,2)", 6)
-            .due(with("sets(%,1)", LOWEST), BAD).due(with("sets(%,1)", HIGHEST), BAD);
+        for (int k : new int[] {-1, 7, LOWEST, HIGHEST}) {
+            for (int v = 0; v <= 4; v++) {
+                on("").due("sets(" + k + "," + v + ")", BAD);
+            }
+        }
+        on("").due("sets(6,1)", 4).due("sets(0,2)", 6);
     }
 
     private void type() {

@@ -88,6 +88,7 @@ final class TextEdges extends Edges {
         text(FIVE_POCKETS, "k7 1;", 1).due("about(5,0)", 7);
         ends(SIX_POCKETS, "k7 1;", 0);
         says("s k v (as sets),");
+        ends("", "s7 0;", 0);
         ends("", "s7 1;", 0);
         int[] low = {2, 1, 0, 0, 0, 0, 1};
         int[] high = {12, 4, 2, 20, 999, 6, 9};
