@@ -3,18 +3,14 @@ import java.lang.reflect.Field;
 import java.lang.reflect.InvocationTargetException;
 import java.lang.reflect.Method;
 import java.lang.reflect.Modifier;
-import java.nio.file.Files;
-import java.nio.file.Path;
 import java.util.ArrayList;
 import java.util.Arrays;
 import java.util.HashSet;
 import java.util.List;
 import java.util.Set;
 import java.util.TreeSet;
-import java.util.regex.Matcher;
-import java.util.regex.Pattern;
 
-/** The document's face and nothing beside it, the rules of LANGUAGE.md that can be read off, no call that throws. */
+/** The document's face and nothing beside it; no call that throws. The rest of LANGUAGE.md is LanguageTest's. */
 public final class FaceTest {
     private static final String[] FACE = {"line 1", "goes 3", "shortens 1", "pocket 2", "widens 2", "touches 2",
         "sets 2", "of 2", "run 3", "about 2", "setting 1", "count 1", "draws 2", "length 1", "blocked 0", "can 1",
@@ -33,7 +29,6 @@ public final class FaceTest {
 
     public static void main(String[] args) throws Exception {
         face();
-        language();
         noCallThrows(new SnakedBus());
         noCallThrows(filled());
         System.out.println(wrong + " wrong");
@@ -57,6 +52,9 @@ public final class FaceTest {
                 names.add(m.getName());
                 Class<?> due = m.getName().equals("digest") ? long.class : int.class;
                 must(m.getReturnType() == due && !Modifier.isStatic(m.getModifiers()), m + " is not as in the face");
+                for (Class<?> parameter : m.getParameterTypes()) {
+                    must(parameter == int.class, m + " does not take int alone");
+                }
             }
         }
         must(found.equals(new TreeSet<>(Arrays.asList(FACE))), "the public methods are " + found);
@@ -85,43 +83,6 @@ public final class FaceTest {
             }
         }
         must(SnakedBus.class.getDeclaredClasses().length <= 11, "too many classes");
-    }
-
-    private static void language() throws java.io.IOException {
-        String source = Files.readString(Path.of("src/main/java/SnakedBus.java"));
-        String code = source.replaceAll("(?s)/\\*.*?\\*/", "").replaceAll("//[^\n]*", "");
-        String[] ruledOut = {"throw", "throws", "try", "catch", "synchronized", "assert", "package", "System\\.(?!arraycopy)",
-            "\\w+Exact", "->", "::", "equals", "hashCode", "toString", "Random", "Thread", "double", "float"};
-        for (String word : ruledOut) {
-            String pattern = Character.isLetter(word.charAt(0)) && !word.endsWith(")") ? "\\b" + word + "\\b" : word;
-            must(!Pattern.compile(pattern).matcher(code).find(), "the source has " + word);
-        }
-        Matcher imports = Pattern.compile("import ([^;]+);").matcher(code);
-        while (imports.find()) {
-            must(imports.group(1).equals("java.util.Arrays"), "the source imports " + imports.group(1));
-        }
-        for (char c : source.toCharArray()) {
-            must(c == '\n' || c >= 32 && c < 127, "the source has the sign " + (int) c);
-        }
-        // All calls of a run share one room, so nothing may be made but with the object.
-        for (String line : code.split("\n")) {
-            if (line.contains("new ")) {
-                must(line.contains("private final") || line.contains("kept[i] = new Bus()"), "made in a call: " + line);
-            }
-        }
-        shortMethods(source);
-    }
-
-    private static void shortMethods(String source) {
-        int began = 0;
-        String[] lines = source.split("\n");
-        for (int i = 0; i < lines.length; i++) {
-            if (lines[i].matches(" {4,8}\\w.*\\) \\{")) {
-                began = i;
-            } else if (lines[i].matches(" {4,8}\\}")) {
-                must(i - began <= 60 || lines[i].matches(" {4}\\}"), "a long method ends in line " + (i + 1));
-            }
-        }
     }
 
     private static SnakedBus filled() {
