@@ -63,8 +63,8 @@ import javax.tools.ToolProvider;
 
 /**
  * The rules of LANGUAGE.md, read off the class as javac understands it. Where a rule leaves to judgement what this
- * class has no use for (while, double, objects made in a call), the test is the stricter one. Each check is itself
- * tested: a member that breaks its rule is put into the class and has to be found.
+ * class has no use for (while, double, objects made in a call), the test is the stricter one. Rules 1 to 12 are each
+ * broken on purpose, by what is put into the class or around it, and that has to be found.
  */
 public final class LanguageTest {
     private static final Path SOURCE = Path.of("src/main/java/SnakedBus.java");
@@ -106,6 +106,7 @@ public final class LanguageTest {
         {"4", "private static int other() { return Math.addExact(1, 2); }"},
         {"4", "private static void other() { System.out.println(); }"},
         {"4", "private static long other() { return System.nanoTime(); }"},
+        {"4", "private final java.util.HashMap<Integer, Integer> map = new java.util.HashMap<>();"},
         {"5", "private static int many = 0;"},
         {"5", "static { }"},
         {"5", "private static final int[] ROW = new int[3];"},
@@ -129,7 +130,9 @@ public final class LanguageTest {
         {"7", "private static int other(int a, int b) { return a / b; }"},
         {"7", "private static int other(int a, int b) { return a % b; }"},
         {"7", "private static int other(int a, int b) { a /= b; return a; }"},
+        {"7", "private static int other(int a, int b) { a %= b; return a; }"},
         {"7", "private static int other(int a, int[] b) { return a / at(b, 0); }"},
+        {"7", "private static int other(int a) { return a / 0; }"},
         {"7", "private static int other(int a) { int[] row = new int[a]; return row.length; }"},
         {"8", "private static int other(int a) { return a < 1 ? 0 : other(a - 1); }"},
         {"8", "private static int one(int a) { return two(a); } private static int two(int a) { return one(a); }"},
@@ -153,6 +156,16 @@ public final class LanguageTest {
             + " u; }"},
         {"12", "private static int other() { int[] row = new int[3]; return row.length; }"},
         {"12", "private static Bus other() { return new Bus(); }"},
+    };
+
+    /** The rule's number, and what breaks it ahead of the class or behind it. */
+    private static final String[][] BROKEN_AROUND = {
+        {"1", "", "class Second { }"},
+        {"3", "package some;\n", ""},
+        {"4", "import java.util.HashMap;\n", ""},
+        {"4", "import static java.lang.Math.abs;\n", ""},
+        {"4", "", "// " + (char) 233},
+        {"4", "\t", ""},
     };
 
     /** Goes through the class and notes, by their numbers, the rules that it breaks. */
@@ -662,43 +675,40 @@ public final class LanguageTest {
         }
         Reader reader = new Reader(unit, Trees.instance(task));
         reader.read();
+        for (char c : source.toCharArray()) {
+            if (c != '\n' && (c < 32 || c > 126)) {
+                reader.faults.add("rule 4, the sign " + (int) c);
+            }
+        }
         return reader.faults;
     }
 
-    private static int signs(String source) {
-        int wrong = 0;
-        for (char c : source.toCharArray()) {
-            if (c != '\n' && (c < 32 || c > 126)) {
-                System.out.println("rule 4: the source has the sign " + (int) c);
-                wrong++;
-            }
-        }
-        return wrong;
-    }
-
-    private static int broken(String source, String[] pair) throws IOException {
-        String with = source.substring(0, source.lastIndexOf('}')) + pair[1] + "\n}\n";
-        List<String> faults = faultsOf(with);
+    private static int broken(String rule, String how, String source) throws IOException {
+        List<String> faults = faultsOf(source);
         for (String fault : faults) {
-            if (fault.startsWith("rule " + pair[0] + ",")) {
+            if (fault.startsWith("rule " + rule + ",")) {
                 return 0;
             }
         }
-        System.out.println("rule " + pair[0] + " is broken and was not found: " + pair[1] + " " + faults);
+        System.out.println("rule " + rule + " is broken and was not found: " + how + " " + faults);
         return 1;
     }
 
     public static void main(String[] args) throws IOException {
         String source = Files.readString(SOURCE);
-        int wrong = signs(source);
+        int wrong = 0;
         for (String fault : faultsOf(source)) {
             System.out.println(fault);
             wrong++;
         }
-        for (String[] pair : BROKEN) {
-            wrong += broken(source, pair);
+        String open = source.substring(0, source.lastIndexOf('}'));
+        for (String[] one : BROKEN) {
+            wrong += broken(one[0], one[1], open + one[1] + "\n}\n");
         }
-        System.out.println(BROKEN.length + " broken rules looked for, " + wrong + " wrong");
+        for (String[] one : BROKEN_AROUND) {
+            wrong += broken(one[0], one[1] + one[2], one[1] + source + one[2]);
+        }
+        System.out.println(BROKEN.length + BROKEN_AROUND.length + " broken rules looked for, " + wrong + " wrong");
         if (wrong != 0) {
             System.exit(1);
         }
